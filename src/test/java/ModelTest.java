@@ -192,15 +192,10 @@ public final class ModelTest {
                 call("translationAt", entry, slot, 0, seen);
             }
         }
-        int unlike = 0;
         for (int entry = 0; entry < model.current.rows.size(); entry++) {
-            if (!Checks.text(real, entry, 20).equals(model.current.rows.get(entry).text.stripTrailing())) {
-                unlike++;
+            for (int place = 0; place <= model.current.rows.get(entry).text.length(); place++) {
+                call("textAt", entry, place, 0, seen);
             }
-        }
-        if (unlike > 0 && calls < MOST_CALLS) {
-            wrong = true;
-            told.append("the texts of ").append(unlike).append(" entries are wrong\n");
         }
     }
 
