@@ -27,12 +27,12 @@ public final class FaceTest {
             "int mergeKept()" + S);
 
     public static void main(String[] args) {
-        Checks checks = Checks.begin();
+        Checks.begin("the face");
         Class<?> face = Catalogmend.class;
-        checks.due("modifiers of the class", Modifier.toString(face.getModifiers()), "public final");
+        Checks.due("modifiers of the class", Modifier.toString(face.getModifiers()), "public final");
         Constructor<?>[] constructors = face.getDeclaredConstructors();
-        checks.due("constructors", constructors.length, 1);
-        checks.due("the constructor", constructors[0].toString(), "public Catalogmend()");
+        Checks.due("constructors", constructors.length, 1);
+        Checks.due("the constructor", constructors[0].toString(), "public Catalogmend()");
 
         List<String> shown = new ArrayList<>();
         List<String> names = new ArrayList<>();
@@ -40,12 +40,12 @@ public final class FaceTest {
             if (!Modifier.isPrivate(method.getModifiers())) {
                 shown.add(told(method));
                 names.add(method.getName());
-                checks.due("modifiers of " + method.getName(), Modifier.toString(method.getModifiers()), "public");
+                Checks.due("modifiers of " + method.getName(), Modifier.toString(method.getModifiers()), "public");
             }
         }
-        checks.due("methods", new TreeSet<>(shown).toString(), new TreeSet<>(FACE).toString());
-        checks.due("as many methods", shown.size(), FACE.size());
-        dueNoPrivateName(checks, face, names);
+        Checks.due("methods", new TreeSet<>(shown).toString(), new TreeSet<>(FACE).toString());
+        Checks.due("as many methods", shown.size(), FACE.size());
+        dueNoPrivateName(face, names);
 
         List<String> constants = new ArrayList<>();
         for (Field field : face.getDeclaredFields()) {
@@ -53,27 +53,27 @@ public final class FaceTest {
                 constants.add(field.toString());
             }
         }
-        checks.due("constants", new TreeSet<>(constants).toString(), new TreeSet<>(List.of(
+        Checks.due("constants", new TreeSet<>(constants).toString(), new TreeSet<>(List.of(
                 "public static final int Catalogmend.NONE", "public static final int Catalogmend.OPEN",
                 "public static final int Catalogmend.GUESSED", "public static final int Catalogmend.DONE"))
                 .toString());
         for (Class<?> inside : face.getDeclaredClasses()) {
-            checks.due(inside + " is static", Modifier.isStatic(inside.getModifiers()), true);
-            checks.due(inside + " is hidden", Modifier.isPublic(inside.getModifiers()), false);
-            dueNoPrivateName(checks, inside, names);
+            Checks.due(inside + " is static", Modifier.isStatic(inside.getModifiers()), true);
+            Checks.due(inside + " is hidden", Modifier.isPublic(inside.getModifiers()), false);
+            dueNoPrivateName(inside, names);
         }
-        System.exit(checks.end());
+        System.exit(Checks.end());
     }
 
-    private static void dueNoPrivateName(Checks checks, Class<?> where, List<String> names) {
+    private static void dueNoPrivateName(Class<?> where, List<String> names) {
         for (Method method : where.getDeclaredMethods()) {
             boolean hidden = !Modifier.isPublic(method.getModifiers());
-            checks.due(where + "." + method.getName() + " bears a public one's name",
+            Checks.due(where + "." + method.getName() + " bears a public one's name",
                     hidden && names.contains(method.getName()), false);
         }
         for (Field field : where.getDeclaredFields()) {
             boolean stays = !Modifier.isStatic(field.getModifiers()) || Modifier.isFinal(field.getModifiers());
-            checks.due("static state " + field, stays, true);
+            Checks.due("static state " + field, stays, true);
         }
     }
 
